@@ -560,7 +560,6 @@ public final class ZonePrint {
             }
             densities[zone] = density;
             wanteds[zone] = wanted;
-            // An undone zone may have left something in the row.
             burns[zone] = 0;
             holds[zone] = 0;
             neighbours[zone] = 0;
