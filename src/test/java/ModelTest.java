@@ -3,10 +3,17 @@ public final class ModelTest {
     private static final Checks checks = new Checks();
     private static final int[] FAR = {Integer.MIN_VALUE, -1, 32, 1000000, Integer.MAX_VALUE};
 
+    /** The document promises nothing behind the 512th call. */
+    private static final int MOST_CALLS = 512;
+    /** No step makes more: nine orders of at most seven characters, ";" between them, and what stands round them. */
+    private static final int MOST_OF_STEP = 80;
+
     private static long seed;
+    /** Calls of the object that is looked at now. */
+    private static int calls;
 
     public static void main(String[] args) {
-        for (int run = 0; run < 150; run++) {
+        for (int run = 0; run < 240; run++) {
             seed = run * 7919L + 17;
             doRun(run);
         }
@@ -16,10 +23,12 @@ public final class ModelTest {
     private static void doRun(int run) {
         ZonePrint x = new ZonePrint();
         PlainPrint due = new PlainPrint();
-        for (int call = 0; call < 120; call++) {
-            step("run " + run + ", call " + call + ": ", x, due);
-            if (call % 6 == 5) {
-                checks.same("run " + run + ", behind call " + call + ": digest()", x.digest(), due.digest());
+        calls = 0;
+        for (int step = 0; calls + MOST_OF_STEP <= MOST_CALLS; step++) {
+            step("run " + run + ", step " + step + ": ", x, due);
+            if (step % 6 == 5) {
+                calls++;
+                checks.same("run " + run + ", behind step " + step + ": digest()", x.digest(), due.digest());
             }
         }
     }
@@ -47,6 +56,7 @@ public final class ModelTest {
     }
 
     private static void same(String name, Checks.Call call, Checks.Call dueCall) {
+        calls++;
         String got = Checks.outcome(call);
         String due = Checks.outcome(dueCall);
         checks.isTrue(name + " answered " + got + ", due is " + due, got.equals(due));
@@ -185,6 +195,7 @@ public final class ModelTest {
             default -> {
                 same(run + "bestTime", x::bestTime, due::bestTime);
                 same(run + "bestGrade", x::bestGrade, due::bestGrade);
+                calls++;
                 checks.same(run + "rightShare", x.rightShare(), due.rightShare());
             }
         }

@@ -1,5 +1,7 @@
 import java.util.ArrayDeque;
 import java.util.ArrayList;
+import java.util.BitSet;
+import java.util.Collections;
 import java.util.HashMap;
 import java.util.HashSet;
 import java.util.List;
@@ -49,9 +51,9 @@ final class PlainPrint {
         }
     }
 
-    private static final Set<String> ORDERS = new HashSet<>();
-    private static final Set<String> BEGINNINGS = new HashSet<>();
-    private static final Map<Long, List<Integer>> NEEDS = new HashMap<>();
+    static final Set<String> ORDERS = new HashSet<>();
+    static final Set<String> BEGINNINGS = new HashSet<>();
+    private static final Map<Long, BitSet> NEEDS = new HashMap<>();
 
     static {
         for (int density = 0; density <= 24; density++) {
@@ -218,7 +220,7 @@ final class PlainPrint {
         return buffer.length();
     }
 
-    private static boolean beginsPrint(String text) {
+    static boolean beginsPrint(String text) {
         String[] parts = text.split(";", -1);
         for (int part = 0; part < parts.length - 1; part++) {
             if (!ORDERS.contains(parts[part])) {
@@ -287,7 +289,7 @@ final class PlainPrint {
         exists(zone);
         argument(what >= 0 && what <= 10);
         Zone one = now.zones.get(zone);
-        List<Integer> needs = needs(now, zone);
+        BitSet needs = needs(now, zone);
         switch (what) {
             case 0: return one.density;
             case 1: return one.wanted;
@@ -302,8 +304,8 @@ final class PlainPrint {
                     mask += 1 << neighbour;
                 }
                 return mask;
-            case 8: return needs.isEmpty() ? -1 : needs.get(0);
-            case 9: return needs.isEmpty() ? -1 : needs.get(needs.size() - 1);
+            case 8: return needs.nextSetBit(0);
+            case 9: return needs.length() - 1;
             default: return spill(now, zone);
         }
     }
@@ -424,22 +426,21 @@ final class PlainPrint {
 
     int common(int what) {
         argument(what >= 0 && what <= 1);
-        Set<Integer> shared = null;
+        BitSet shared = new BitSet();
+        boolean any = false;
         for (int zone = 0; zone < now.zones.size(); zone++) {
-            List<Integer> needs = needs(now, zone);
+            BitSet needs = needs(now, zone);
             if (needs.isEmpty()) {
                 continue;
             }
-            if (shared == null) {
-                shared = new HashSet<>(needs);
+            if (any) {
+                shared.and(needs);
             } else {
-                shared.retainAll(new HashSet<>(needs));
+                shared.or(needs);
             }
+            any = true;
         }
-        if (shared == null || shared.isEmpty()) {
-            return -1;
-        }
-        return what == 0 ? java.util.Collections.min(shared) : java.util.Collections.max(shared);
+        return what == 0 ? shared.nextSetBit(0) : shared.length() - 1;
     }
 
     double rightShare() {
@@ -502,9 +503,12 @@ final class PlainPrint {
     }
 
     private static int tone(State state, int density, int time) {
-        int light = light(density, time);
+        return tone(marks(state.grade, state.speed), light(density, time));
+    }
+
+    private static int tone(int[] marks, int light) {
         int tone = 0;
-        for (int mark : marks(state.grade, state.speed)) {
+        for (int mark : marks) {
             tone += mark <= light ? 1 : 0;
         }
         return tone;
@@ -544,15 +548,16 @@ final class PlainPrint {
     }
 
     /** All times from 1 to 9999 with the wanted tone, tried one by one; kept, for it takes long. */
-    private static List<Integer> needs(State state, int zone) {
+    private static BitSet needs(State state, int zone) {
         Zone one = state.zones.get(zone);
         long key = ((state.grade * 1000L + state.speed) * 100 + one.density) * 100 + one.wanted;
-        List<Integer> needs = NEEDS.get(key);
+        BitSet needs = NEEDS.get(key);
         if (needs == null) {
-            needs = new ArrayList<>();
+            needs = new BitSet();
+            int[] marks = marks(state.grade, state.speed);
             for (int time = 1; time <= 9999; time++) {
-                if (tone(state, one.density, time) == one.wanted) {
-                    needs.add(time);
+                if (tone(marks, light(one.density, time)) == one.wanted) {
+                    needs.set(time);
                 }
             }
             NEEDS.put(key, needs);
@@ -566,10 +571,10 @@ final class PlainPrint {
             state.zones.get(zone).burn = 0;
             state.zones.get(zone).hold = 0;
             if (!needs(state, zone).isEmpty()) {
-                least.add(needs(state, zone).get(0));
+                least.add(needs(state, zone).nextSetBit(0));
             }
         }
-        java.util.Collections.sort(least);
+        Collections.sort(least);
         if (!least.isEmpty()) {
             state.time = Math.min(2000, least.get((least.size() - 1) / 2));
         }

@@ -1,9 +1,14 @@
 import com.sun.management.ThreadMXBean;
 import java.lang.management.ManagementFactory;
 
-/** All calls of one run share one room: no call makes an object but the exception that it throws. */
+/**
+ * All calls of one run live in one room of some 600,000 objects and 7.3 million fields and elements. What the
+ * machine can count are bytes: an object takes 16 of them at least, so that what takes fewer bytes fits in.
+ */
 public final class RoomTest {
-    private static final String TEXT = "z0=0;z3=4;z6=8;z9=1;z12=5;z15=9;z18=2;z21=6;n01;n12;b0:9";
+    private static final long MOST_BYTES = 600_000L * 16;
+    /** The document promises nothing behind the 512th call, and Prints.full() makes some 130 of them. */
+    private static final int CALLS_OF_EACH = 256;
 
     public static void main(String[] args) {
         Checks checks = new Checks();
@@ -12,36 +17,24 @@ public final class RoomTest {
             System.out.println("this machine does not count what a thread makes: nothing is checked");
             return;
         }
-        ZonePrint warm = new ZonePrint();
-        long sum = useAll(warm);
-        ZonePrint x = new ZonePrint();
-        long before = threads.getCurrentThreadAllocatedBytes();
-        for (int round = 0; round < 20; round++) {
-            sum += useAll(x);
+        Checks.PrintCall[] calls = {
+            ZonePrint::digest, ZonePrint::bestGrade, ZonePrint::bestTime, ZonePrint::plan, x -> x.expose(9),
+            x -> x.burn(7, 99), x -> x.strip(0, 9, 9, 0), x -> x.ifExposed(99, 1), x -> x.ifBurned(1, 9, 1),
+            x -> x.common(0), x -> x.zoneOf(1, 8), ZonePrint::firstError, x -> Checks.outcome(x::run).length(),
+        };
+        for (int call = 0; call < calls.length; call++) {
+            long before = threads.getCurrentThreadAllocatedBytes();
+            long sum = manyCalls(calls[call], Prints.full()) + manyCalls(calls[call], Prints.full());
+            long made = threads.getCurrentThreadAllocatedBytes() - before;
+            checks.isTrue("call " + call + " made " + made + " bytes (" + sum + ")", made < MOST_BYTES);
         }
-        long made = threads.getCurrentThreadAllocatedBytes() - before;
-        // The counting itself may make a little; 20 rounds of one object a call would make some 20000 bytes.
-        checks.isTrue("made " + made + " bytes (" + sum + ")", made < 4000);
-        before = threads.getCurrentThreadAllocatedBytes();
-        ZonePrint y = new ZonePrint();
-        made = threads.getCurrentThreadAllocatedBytes() - before;
-        checks.isTrue("a new object makes " + made + " bytes (" + y.count(0) + ")", made < 8000);
         checks.end();
     }
 
-    /** Calls every method, and takes back what can be undone. */
-    private static long useAll(ZonePrint x) {
-        x.clearBuffer();
-        for (int place = 0; place < TEXT.length(); place++) {
-            x.append(TEXT.charAt(place));
-        }
-        long sum = x.firstError() + x.digest() + x.run();
-        sum += x.want(0, 3) + x.link(2, 3) + x.expose(77) + x.burn(1, 99) + x.hold(2, 9) + x.paper(3, 77);
-        sum += x.plan() + x.set(20) + x.undo() + x.undo() + x.zoneOf(1, 8) + x.mark(3) + x.strip(1, 9, 9, 0);
-        sum += x.count(9) + x.ifExposed(99, 1) + x.bestTime() + x.bestGrade() + x.ifBurned(1, 9, 1) + x.common(0);
-        sum += (long) (x.rightShare() * 8) + x.digest();
-        while (x.count(11) > 0) {
-            x.undo();
+    private static long manyCalls(Checks.PrintCall call, ZonePrint x) {
+        long sum = 0;
+        for (int time = 0; time < CALLS_OF_EACH; time++) {
+            sum += call.answer(x);
         }
         return sum;
     }
